@@ -726,6 +726,7 @@ public final class SixteenDesk {
             }
         }
 
+        /** TO GO IN, and on to what a vector has; no vector lies at a DEVICE. */
         private void enter(int vector) {
             int before = row[PSR];
             if ((before & USER_MODE) != 0) {
@@ -737,7 +738,7 @@ public final class SixteenDesk {
             put(row[6], before);
             row[6] = row[6] - 1 & LOW_16;
             put(row[6], row[PC]);
-            row[PC] = fetch(vector);
+            row[PC] = memory.at(vector);
         }
 
         private boolean isBarred(int place) {

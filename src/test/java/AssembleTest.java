@@ -53,6 +53,7 @@ public final class AssembleTest {
         dueWords(c, ".ORIG 5\n.STRINGZ\"a;b\";c", "0061 003B 0062 0000");
         dueWords(c, ".ORIG 5\nHALT\n.END\n!! \" nothing is read here\nHALT", "F025");
         dueWords(c, ".ORIG 5\nHALT\nL .END ; x", "F025");
+        dueWords(c, "\n\n.ORIG 5\nHALT\n.END\n", "F025");
         dueWords(c, ".ORIG 5", "");
         dueWords(c, ".ORIG 5\n.END", "");
     }
@@ -97,6 +98,7 @@ public final class AssembleTest {
             dueWords(c, ".ORIG 9\n" + name + " .FILL " + name.toLowerCase(), "0009");
         }
         dueWords(c, ".ORIG 9\nABCDEFGHIJKLMNOPQRST .FILL ABCDEFGHIJKLMNOPQRSU\nABCDEFGHIJKLMNOPQRSU", "000A");
+        dueWords(c, ".ORIG 9\nA9 .FILL A_\nA_", "000A");
         dueWords(c, ".ORIG 9\nABCDEFGHIJ .FILL ABCDEFGHIJK\nABCDEFGHIJK", "000A");
     }
 

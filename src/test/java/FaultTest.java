@@ -22,7 +22,7 @@ public final class FaultTest {
 
     private static void syntax(Check c) {
         String[] starts = {
-            "|", "\n\n|", " ; .ORIG 5\n,\t|", "|HALT", "\n |.END", "|L .ORIG 5", "|.FILL 5", "|!", "|\"a\"", "|.ORIGIN 5",
+            "|", "\n\n|", " ; .ORIG 5\n,\t|", "|HALT", "\n |.END", "|L .ORIG 5", "|.FILL 5", "|!", "|\"a\"", "|.ORIGIN 5", "|#ORIG 5", "|-ORIG 5", "|ORIG 5",
             ".ORIG|", ".ORIG |\n5", ".ORIG ;5|\n", ".ORIG |L", ".ORIG |R1", ".ORIG |HALT", ".ORIG |\"5\"", ".ORIG 5 |5",
             ".ORIG 5\n|.ORIG 6", ".ORIG 5\nL |.ORIG 6", ".ORIG 5\n.END |5", ".ORIG 5\n.END |.END", ".ORIG 5 |HALT",
         };
@@ -30,7 +30,7 @@ public final class FaultTest {
             due(c, 1, marked);
         }
         String[] lines = {
-            "|!", "L |!", "L |L", "A |B HALT", "|R1", "|5", "|x1F", "L |5", "|.FOO", "|A.B", "|_A", "|A-", "|#", "|-", "|x-",
+            "|!", "L |!", "L |L", "|0A HALT", "|9Z", "|#FILL 5", "|-FILL 5", "|.HALT", "A |B HALT", "|R1", "|5", "|x1F", "L |5", "|.FOO", "|A.B", "|_A", "|A-", "|#", "|-", "|x-",
             "|ABCDEFGHIJKLMNOPQRSTU HALT", "|\"a\"", "|\"a", "|\u0000", "|\u00e9", "|'", "|:", "|\\", "HALT |HALT", "HALT |L",
             "RET |R7", "ADD|", "ADD R0|", "ADD R0,R1|", "ADD R0,R1 |\nR2", "ADD R0,R1;R2|\n", "ADD |#1", "ADD R0,|L", "ADD R0,R1,|L",
             "ADD R0,R1,R2,|R3", "ADD R0,R1,|1234567", "ADD R0,R1,|#0000001", "ADD R0,R1,|x000001", "ADD R0,R1,|#x5",
@@ -39,7 +39,7 @@ public final class FaultTest {
             "LD R0,|\"a\"", "LEA R0 |BRNZP", "LDR R0,R1|", "LDR R0,R1,|R2", "LDR R0,R1,|L", "STR R0 |5", "JMP|", "JMP |5", "JMP |R8",
             "JSRR |L", "JSR|", "JSR |R1", "TRAP|", "TRAP |L", "TRAP |R1", ".FILL|", ".FILL |R1", ".FILL |\"a\"", ".FILL |ADD",
             ".BLKW|", ".BLKW |L", ".STRINGZ|", ".STRINGZ |L", ".STRINGZ |5", ".STRINGZ |\"a", ".STRINGZ |\"a\nb\"",
-            ".STRINGZ |\"\\x\"", ".STRINGZ |\"\\N\"", ".STRINGZ |\"\\", ".STRINGZ |\"\\\"", ".STRINGZ |\"\t\"", ".STRINGZ |\"\u007f\"",
+            ".STRINGZ |\"\\x\"", ".STRINGZ |\"\\N\"", ".STRINGZ |\"\\", ".STRINGZ |\"\\\"", ".STRINGZ |\"\t\"", ".STRINGZ |\"\u001f\"", ".STRINGZ |\"\u007f\"",
             ".STRINGZ |\"\u00e9\"", ".STRINGZ \"a\" |\"b\"", ".STRINGZ \"a\"|\"b\"", ".STRINGZ \"a\"|b",
         };
         for (String marked : lines) {

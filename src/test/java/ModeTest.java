@@ -85,6 +85,15 @@ public final class ModeTest {
             dueException(c, "TRAP 0", once(0x3000, 0xFF00, psr), 0x1100, 0x3001, psr);
             dueException(c, "TRAP 255", once(0x3000, 0xF0FF, psr), 0x1100, 0x3001, psr);
         }
+        SixteenDesk back = new SixteenDesk();
+        back.poke(257, 0x1000);
+        back.poke(0x3000, 0xD000);
+        back.poke(0x3001, 0x1261);
+        back.poke(0x1000, 0x14A1);
+        back.poke(0x1001, 0x8000);
+        c.due("run(4)", back.run(4), 4);
+        c.due("there and back", Check.registers(back), "0 1 1 0 0 0 0 0 3002 8001 3000 0");
+        c.due("one exception", back.count(2), 1);
         SixteenDesk x = new SixteenDesk();
         x.poke(257, 0x1234);
         x.set(9, 2);

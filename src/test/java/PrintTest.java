@@ -40,6 +40,9 @@ public final class PrintTest {
         SixteenDesk y = Check.loaded(data.replace("%s", "PUTSP"));
         y.run(2);
         c.due("PUTSP", bytes(y), "66 65 67 0 68");
+        SixteenDesk edge = Check.loaded(".ORIG x3000\nLEA R0, T\nPUTSP\nHALT\nT .FILL x0141\n.FILL xC1\n.FILL xFF42\n.FILL x8000\n.FILL 0");
+        edge.run(2);
+        c.due("PUTSP", bytes(edge), "65 1 193 66 255 0 128");
         SixteenDesk z = Check.loaded(".ORIG x3000\nLEA R0, T\nPUTS\nPUTSP\nHALT\nT .FILL 0");
         z.run(9);
         c.due("an empty text", z.printed(), 0);

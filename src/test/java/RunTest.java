@@ -23,6 +23,8 @@ public final class RunTest {
         x.poke(0x3011, 0x4002);
         x.poke(0x4002, 0x8123);
         x.poke(0x4000, 77);
+        x.poke(0x3FE0, 55);
+        x.poke(0x401F, 66);
         x.run(1);
         return x;
     }
@@ -56,6 +58,8 @@ public final class RunTest {
         for (Object[] row : rows) {
             c.due(String.format("registers behind %04X", row[0]), Check.registers(once((Integer) row[0])), (String) row[1]);
         }
+        c.due("LDR -32", once(0x6B60).register(5), 55);
+        c.due("LDR 31", once(0x6B5F).register(5), 66);
         c.due("ST", once(0x3410).peek(0x3011), 3);
         c.due("STI", once(0xB410).peek(0x4002), 3);
         c.due("STR", once(0x757F).peek(0x3FFF), 3);
@@ -194,6 +198,11 @@ public final class RunTest {
         c.due("print(0) stays", x.print(0), 66);
         c.due("what else lay there stays", x.peek(100), 9);
         c.due("count(0) stays", x.count(0), 4);
+        Check.assemble(x, ".ORIG 100\n.FILL 1\n.FILL 2\n.FILL 3");
+        Check.assemble(x, ".ORIG 98\n.FILL 6\n.FILL 5");
+        x.load();
+        c.due("the WORDS", x.peek(98) * 10 + x.peek(99), 65);
+        c.due("what lies behind them stays", x.peek(100), 9);
         Check.assemble(x, ".ORIG 300");
         c.due("load() of no WORD", x.load(), true);
         c.due("PC", x.register(8), 300);
