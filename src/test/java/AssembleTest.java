@@ -112,6 +112,8 @@ public final class AssembleTest {
         dueWords(c, ".ORIG xFFFF\nE BR F\nF", "0E00");
         dueWords(c, ".ORIG xFFFE\n.FILL F\nHALT\nF", "0000 F025");
         dueWords(c, ".ORIG 65535\nHALT", "F025");
+        dueWords(c, ".ORIG 65535\n.BLKW 1", "0000");
+        dueWords(c, ".ORIG 65534\n.STRINGZ \"a\"\nE", "0061 0000");
         StringBuilder far = new StringBuilder(".ORIG 0\nB BR A\n.BLKW 255\nA BR B");
         SixteenDesk x = new SixteenDesk();
         c.due("distance 255 and -257", Check.assemble(x, far.toString()), 6);
