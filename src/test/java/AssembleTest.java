@@ -14,19 +14,8 @@ public final class AssembleTest {
         c.finish();
     }
 
-    private static void dueWords(Check c, String text, String want) {
-        SixteenDesk x = new SixteenDesk();
-        int fault = Check.assemble(x, text);
-        c.due("FAULT of " + text, fault, 0);
-        c.due("told(0) of " + text, x.told(0), 0);
-        c.due("told(1) of " + text, x.told(1), -1);
-        if (fault == 0) {
-            c.due("words of " + text, Check.words(x), want);
-        }
-    }
-
     private static void dueOne(Check c, String line, String want) {
-        dueWords(c, ".ORIG x3000\n" + line, want);
+        c.dueWords(".ORIG x3000\n" + line, want);
     }
 
     private static void instructions(Check c) {
@@ -49,13 +38,13 @@ public final class AssembleTest {
 
     private static void tokens(Check c) {
         dueOne(c, ",,ADD,R1\tR2 ,\r,R3,,;rest \"!\u00ff", "1283");
-        dueWords(c, "\n ; note\n\t,\r\n.orig 5 ; here\n\nhalt\n\n", "F025");
-        dueWords(c, ".ORIG 5\n.STRINGZ\"a;b\";c", "0061 003B 0062 0000");
-        dueWords(c, ".ORIG 5\nHALT\n.END\n!! \" nothing is read here\nHALT", "F025");
-        dueWords(c, ".ORIG 5\nHALT\nL .END ; x", "F025");
-        dueWords(c, "\n\n.ORIG 5\nHALT\n.END\n", "F025");
-        dueWords(c, ".ORIG 5", "");
-        dueWords(c, ".ORIG 5\n.END", "");
+        c.dueWords("\n ; note\n\t,\r\n.orig 5 ; here\n\nhalt\n\n", "F025");
+        c.dueWords(".ORIG 5\n.STRINGZ\"a;b\";c", "0061 003B 0062 0000");
+        c.dueWords(".ORIG 5\nHALT\n.END\n!! \" nothing is read here\nHALT", "F025");
+        c.dueWords(".ORIG 5\nHALT\nL .END ; x", "F025");
+        c.dueWords("\n\n.ORIG 5\nHALT\n.END\n", "F025");
+        c.dueWords(".ORIG 5", "");
+        c.dueWords(".ORIG 5\n.END", "");
     }
 
     private static void numbers(Check c) {
@@ -71,7 +60,7 @@ public final class AssembleTest {
 
     private static void labels(Check c) {
         String text = ".ORIG x3000\nA\nB ADD R0,R0,R0\nLoop_1 BR loop_1\nJSR A\nLD R0, Z\n.FILL b\nR8 .BLKW 2\nZ";
-        dueWords(c, text, "1000 0FFF 4FFD 2003 3000 0000 0000");
+        c.dueWords(text, "1000 0FFF 4FFD 2003 3000 0000 0000");
         SixteenDesk x = new SixteenDesk();
         Check.assemble(x, text);
         c.due("labels", Check.labels(x), "12288 12288 12289 12293 12295");
@@ -95,25 +84,25 @@ public final class AssembleTest {
             "ABCDEFGHIJKLMNOPQRST", "XA_B", "B",
         };
         for (String name : names) {
-            dueWords(c, ".ORIG 9\n" + name + " .FILL " + name.toLowerCase(), "0009");
+            c.dueWords(".ORIG 9\n" + name + " .FILL " + name.toLowerCase(), "0009");
         }
-        dueWords(c, ".ORIG 9\nABCDEFGHIJKLMNOPQRST .FILL ABCDEFGHIJKLMNOPQRSU\nABCDEFGHIJKLMNOPQRSU", "000A");
-        dueWords(c, ".ORIG 9\nA9 .FILL A_\nA_", "000A");
-        dueWords(c, ".ORIG 9\nABCDEFGHIJ .FILL ABCDEFGHIJK\nABCDEFGHIJK", "000A");
+        c.dueWords(".ORIG 9\nABCDEFGHIJKLMNOPQRST .FILL ABCDEFGHIJKLMNOPQRSU\nABCDEFGHIJKLMNOPQRSU", "000A");
+        c.dueWords(".ORIG 9\nA9 .FILL A_\nA_", "000A");
+        c.dueWords(".ORIG 9\nABCDEFGHIJ .FILL ABCDEFGHIJK\nABCDEFGHIJK", "000A");
     }
 
     private static void data(Check c) {
-        dueWords(c, ".ORIG 0\n.STRINGZ \"\"", "0000");
-        dueWords(c, ".ORIG 0\n.stringz \"aZ \\n\\t\\0\\\"\\\\~,;\"", "0061 005A 0020 000A 0009 0000 0022 005C 007E 002C 003B 0000");
-        dueWords(c, ".ORIG 0\n.BLKW 3\nHALT", "0000 0000 0000 F025");
+        c.dueWords(".ORIG 0\n.STRINGZ \"\"", "0000");
+        c.dueWords(".ORIG 0\n.stringz \"aZ \\n\\t\\0\\\"\\\\~,;\"", "0061 005A 0020 000A 0009 0000 0022 005C 007E 002C 003B 0000");
+        c.dueWords(".ORIG 0\n.BLKW 3\nHALT", "0000 0000 0000 F025");
     }
 
     private static void edges(Check c) {
-        dueWords(c, ".ORIG xFFFF\nE BR F\nF", "0E00");
-        dueWords(c, ".ORIG xFFFE\n.FILL F\nHALT\nF", "0000 F025");
-        dueWords(c, ".ORIG 65535\nHALT", "F025");
-        dueWords(c, ".ORIG 65535\n.BLKW 1", "0000");
-        dueWords(c, ".ORIG 65534\n.STRINGZ \"a\"\nE", "0061 0000");
+        c.dueWords(".ORIG xFFFF\nE BR F\nF", "0E00");
+        c.dueWords(".ORIG xFFFE\n.FILL F\nHALT\nF", "0000 F025");
+        c.dueWords(".ORIG 65535\nHALT", "F025");
+        c.dueWords(".ORIG 65535\n.BLKW 1", "0000");
+        c.dueWords(".ORIG 65534\n.STRINGZ \"a\"\nE", "0061 0000");
         StringBuilder far = new StringBuilder(".ORIG 0\nB BR A\n.BLKW 255\nA BR B");
         SixteenDesk x = new SixteenDesk();
         c.due("distance 255 and -257", Check.assemble(x, far.toString()), 6);

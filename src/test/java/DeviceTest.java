@@ -74,47 +74,24 @@ public final class DeviceTest {
         c.due("it RUNS", x.state(), 0);
     }
 
-    /** A desk in the SUPERVISOR's mode, with LDI R1 at x200 over and over, from the place in x300. */
-    private static SixteenDesk reader() {
-        SixteenDesk x = new SixteenDesk();
-        x.set(9, 0x0702);
-        return x;
-    }
-
-    private static int read(SixteenDesk x, int place) {
-        x.poke(0x200, 0xA20F);
-        x.poke(0x210, place);
-        x.set(8, 0x200);
-        x.run(1);
-        return x.register(1);
-    }
-
-    private static void store(SixteenDesk x, int place, int v) {
-        x.poke(0x200, 0xB20F);
-        x.poke(0x210, place);
-        x.set(1, v);
-        x.set(8, 0x200);
-        x.run(1);
-    }
-
     private static void reads(Check c) {
-        SixteenDesk x = reader();
-        c.due("KBSR", read(x, 65024), 0);
-        c.due("KBDR", read(x, 65026), 0);
-        c.due("DSR", read(x, 65028), 32768);
-        c.due("DDR", read(x, 65030), 0);
-        c.due("MCR", read(x, 65534), 32768);
+        SixteenDesk x = new SixteenDesk();
+        c.due("KBSR", Check.read(x, 65024), 0);
+        c.due("KBDR", Check.read(x, 65026), 0);
+        c.due("DSR", Check.read(x, 65028), 32768);
+        c.due("DDR", Check.read(x, 65030), 0);
+        c.due("MCR", Check.read(x, 65534), 32768);
         x.key(7);
         x.key(8);
-        c.due("KBSR with a key", read(x, 65024), 32768);
+        c.due("KBSR with a key", Check.read(x, 65024), 32768);
         c.due("peek(KBDR)", x.peek(65026), 7);
         c.due("no key is gone", x.count(4), 2);
-        c.due("KBDR", read(x, 65026), 7);
+        c.due("KBDR", Check.read(x, 65026), 7);
         c.due("it is gone", x.count(4), 1);
-        c.due("KBDR", read(x, 65026), 8);
-        c.due("KBDR again", read(x, 65026), 8);
+        c.due("KBDR", Check.read(x, 65026), 8);
+        c.due("KBDR again", Check.read(x, 65026), 8);
         c.due("peek(KBDR)", x.peek(65026), 8);
-        c.due("KBSR", read(x, 65024), 0);
+        c.due("KBSR", Check.read(x, 65024), 0);
         x.key(9);
         x.poke(0x211, 0xF020);
         x.set(8, 0x211);
@@ -130,24 +107,24 @@ public final class DeviceTest {
     }
 
     private static void writes(Check c) {
-        SixteenDesk x = reader();
-        store(x, 65024, 0xFFFF);
+        SixteenDesk x = new SixteenDesk();
+        Check.store(x, 65024, 0xFFFF);
         c.due("KBSR", x.peek(65024), 0x4000);
-        store(x, 65024, 0xBFFF);
+        Check.store(x, 65024, 0xBFFF);
         c.due("KBSR", x.peek(65024), 0);
-        store(x, 65026, 5);
+        Check.store(x, 65026, 5);
         c.due("KBDR", x.peek(65026), 0);
-        store(x, 65028, 0);
+        Check.store(x, 65028, 0);
         c.due("DSR", x.peek(65028), 32768);
-        store(x, 65030, 0x1241);
+        Check.store(x, 65030, 0x1241);
         c.due("printed()", x.printed(), 1);
         c.due("print(0)", x.print(0), 0x41);
         c.due("DDR", x.peek(65030), 0);
-        store(x, 65025, 77);
+        Check.store(x, 65025, 77);
         c.due("a WORD between", x.peek(65025), 77);
-        store(x, 65534, 0x8000);
+        Check.store(x, 65534, 0x8000);
         c.due("RUNS", x.state(), 0);
-        store(x, 65534, 0x7FFF);
+        Check.store(x, 65534, 0x7FFF);
         c.due("HALTED", x.state(), 1);
         c.due("MCR", x.peek(65534), 32768);
     }

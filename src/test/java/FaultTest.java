@@ -10,16 +10,6 @@ public final class FaultTest {
         c.finish();
     }
 
-    private static void due(Check c, int want, String marked) {
-        int place = marked.indexOf('|');
-        String text = marked.substring(0, place) + marked.substring(place + 1);
-        SixteenDesk x = new SixteenDesk();
-        c.due("assemble() of " + marked, Check.assemble(x, text), want);
-        c.due("told(0) of " + marked, x.told(0), want);
-        c.due("told(1) of " + marked, x.told(1), place);
-        c.due("load() of " + marked, x.load(), false);
-    }
-
     private static void syntax(Check c) {
         String[] starts = {
             "|", "\n\n|", " ; .ORIG 5\n,\t|", "|HALT", "\n |.END", "|L .ORIG 5", "|.FILL 5", "|!", "|\"a\"", "|.ORIGIN 5", "|#ORIG 5", "|-ORIG 5", "|ORIG 5",
@@ -27,7 +17,7 @@ public final class FaultTest {
             ".ORIG 5\n|.ORIG 6", ".ORIG 5\nL |.ORIG 6", ".ORIG 5\n.END |5", ".ORIG 5\n.END |.END", ".ORIG 5 |HALT",
         };
         for (String marked : starts) {
-            due(c, 1, marked);
+            c.dueFault(1, marked);
         }
         String[] lines = {
             "|!", "L |!", "L |L", "|0A HALT", "|9Z", "|#FILL 5", "|-FILL 5", "|.HALT", "A |B HALT", "|R1", "|5", "|x1F", "L |5", "|.FOO", "|A.B", "|_A", "|A-", "|#", "|-", "|x-",
@@ -43,15 +33,15 @@ public final class FaultTest {
             ".STRINGZ |\"\u00e9\"", ".STRINGZ \"a\" |\"b\"", ".STRINGZ \"a\"|\"b\"", ".STRINGZ \"a\"|b",
         };
         for (String marked : lines) {
-            due(c, 1, ".ORIG 5\n" + marked);
+            c.dueFault(1, ".ORIG 5\n" + marked);
         }
     }
 
     private static void range(Check c) {
-        due(c, 2, ".ORIG |-1");
-        due(c, 2, ".ORIG |65536");
-        due(c, 2, ".ORIG |x-1 !");
-        due(c, 2, ".ORIG |xFFFFF");
+        c.dueFault(2, ".ORIG |-1");
+        c.dueFault(2, ".ORIG |65536");
+        c.dueFault(2, ".ORIG |x-1 !");
+        c.dueFault(2, ".ORIG |xFFFFF");
         String[][] rows = {
             {".FILL ", "-32769", "65536"}, {".BLKW ", "0", "4097"}, {".BLKW ", "-1", "999999"}, {"ADD R0,R0,", "-17", "16"},
             {"AND R0,R0,", "#-17", "x10"}, {"LDR R0,R0,", "-33", "32"}, {"STR R0,R0,", "-33", "32"}, {"TRAP ", "-1", "256"},
@@ -59,57 +49,57 @@ public final class FaultTest {
             {"LDI R0 ", "-257", "256"}, {"LEA R0 ", "-257", "256"}, {"ST R0 ", "-257", "256"}, {"STI R0 ", "-257", "256"},
         };
         for (String[] row : rows) {
-            due(c, 2, ".ORIG 5\n" + row[0] + "|" + row[1]);
-            due(c, 2, ".ORIG 5\nL " + row[0] + "|" + row[2] + " !");
+            c.dueFault(2, ".ORIG 5\n" + row[0] + "|" + row[1]);
+            c.dueFault(2, ".ORIG 5\nL " + row[0] + "|" + row[2] + " !");
         }
     }
 
     private static void twiceAndRoom(Check c) {
-        due(c, 3, ".ORIG 5\nA\n|A");
-        due(c, 3, ".ORIG 5\nLoop HALT\n|lOOP !");
+        c.dueFault(3, ".ORIG 5\nA\n|A");
+        c.dueFault(3, ".ORIG 5\nLoop HALT\n|lOOP !");
         StringBuilder many = new StringBuilder(".ORIG 0\n");
         for (int i = 0; i < 200; i++) {
             many.append('L').append(i).append('\n');
         }
-        due(c, 4, many + "|M HALT");
-        due(c, 3, many + "|L7");
-        due(c, 4, ".ORIG xFFFF\nHALT\n|HALT");
-        due(c, 4, ".ORIG xFFFF\nHALT\nE |ADD !");
-        due(c, 4, ".ORIG xFFFF\nHALT\n|.FILL R1");
-        due(c, 4, ".ORIG xFFFF\n|.BLKW 2");
-        due(c, 4, ".ORIG xFFFF\nE |.BLKW 2 !");
-        due(c, 2, ".ORIG xFFFF\n.BLKW |5000");
-        due(c, 1, ".ORIG xFFFF\n.BLKW |L");
-        due(c, 4, ".ORIG xFFFF\n|.STRINGZ \"a\"");
-        due(c, 1, ".ORIG xFFFF\n.STRINGZ |\"a");
-        due(c, 1, ".ORIG xFFFF\n.STRINGZ |a");
-        due(c, 4, ".ORIG 0\n.BLKW 4096\n|HALT");
-        due(c, 4, ".ORIG 0\n.BLKW 4096\n|BR 9999");
-        due(c, 4, ".ORIG 0\n.BLKW 4096\n|.FILL");
-        due(c, 4, ".ORIG 0\n.BLKW 4000\n|.BLKW 97");
-        due(c, 4, ".ORIG 0\n.BLKW 4095\n|.STRINGZ \"\\n\"");
-        due(c, 1, ".ORIG 0\n.BLKW 4096\nE .END |5");
+        c.dueFault(4, many + "|M HALT");
+        c.dueFault(3, many + "|L7");
+        c.dueFault(4, ".ORIG xFFFF\nHALT\n|HALT");
+        c.dueFault(4, ".ORIG xFFFF\nHALT\nE |ADD !");
+        c.dueFault(4, ".ORIG xFFFF\nHALT\n|.FILL R1");
+        c.dueFault(4, ".ORIG xFFFF\n|.BLKW 2");
+        c.dueFault(4, ".ORIG xFFFF\nE |.BLKW 2 !");
+        c.dueFault(2, ".ORIG xFFFF\n.BLKW |5000");
+        c.dueFault(1, ".ORIG xFFFF\n.BLKW |L");
+        c.dueFault(4, ".ORIG xFFFF\n|.STRINGZ \"a\"");
+        c.dueFault(1, ".ORIG xFFFF\n.STRINGZ |\"a");
+        c.dueFault(1, ".ORIG xFFFF\n.STRINGZ |a");
+        c.dueFault(4, ".ORIG 0\n.BLKW 4096\n|HALT");
+        c.dueFault(4, ".ORIG 0\n.BLKW 4096\n|BR 9999");
+        c.dueFault(4, ".ORIG 0\n.BLKW 4096\n|.FILL");
+        c.dueFault(4, ".ORIG 0\n.BLKW 4000\n|.BLKW 97");
+        c.dueFault(4, ".ORIG 0\n.BLKW 4095\n|.STRINGZ \"\\n\"");
+        c.dueFault(1, ".ORIG 0\n.BLKW 4096\nE .END |5");
     }
 
     private static void secondPass(Check c) {
-        due(c, 5, ".ORIG 0\nBR |ZZ");
-        due(c, 5, ".ORIG 0\n.FILL |ZZ\nBR YY");
-        due(c, 5, ".ORIG 0\nBR |ZZ\n.END\nZZ");
-        due(c, 5, ".ORIG 0\nA JSR |AA");
-        due(c, 5, ".ORIG 0\nABCDEFGHIJKLMNOPQRST BR |ABCDEFGHIJKLMNOPQRS");
-        due(c, 6, ".ORIG 0\nBR |A\n.BLKW 256\nA");
-        due(c, 6, ".ORIG 0\nA .BLKW 256\nLD R0 |A");
-        due(c, 6, ".ORIG 0\nJSR |A\n.BLKW 1024\nA");
-        due(c, 6, ".ORIG 0\nA .BLKW 1024\nJSR |A");
-        due(c, 6, ".ORIG xFE00\nBR |A\n.BLKW 511\nA");
+        c.dueFault(5, ".ORIG 0\nBR |ZZ");
+        c.dueFault(5, ".ORIG 0\n.FILL |ZZ\nBR YY");
+        c.dueFault(5, ".ORIG 0\nBR |ZZ\n.END\nZZ");
+        c.dueFault(5, ".ORIG 0\nA JSR |AA");
+        c.dueFault(5, ".ORIG 0\nABCDEFGHIJKLMNOPQRST BR |ABCDEFGHIJKLMNOPQRS");
+        c.dueFault(6, ".ORIG 0\nBR |A\n.BLKW 256\nA");
+        c.dueFault(6, ".ORIG 0\nA .BLKW 256\nLD R0 |A");
+        c.dueFault(6, ".ORIG 0\nJSR |A\n.BLKW 1024\nA");
+        c.dueFault(6, ".ORIG 0\nA .BLKW 1024\nJSR |A");
+        c.dueFault(6, ".ORIG xFE00\nBR |A\n.BLKW 511\nA");
     }
 
     private static void first(Check c) {
-        due(c, 5, ".ORIG 0\nBR |ZZ\nBR A\n.BLKW 300\nA");
-        due(c, 6, ".ORIG 0\nBR |A\nBR ZZ\n.BLKW 300\nA");
-        due(c, 1, ".ORIG 0\nBR ZZ\nBR A\n.BLKW 300\nA |A");
-        due(c, 3, ".ORIG 0\nBR ZZ\nA\n|A");
-        due(c, 2, ".ORIG 0\nA\n.FILL |99999\nA\n!");
-        due(c, 1, ".ORIG 0\nA\nB |!\nA\n.FILL 99999");
+        c.dueFault(5, ".ORIG 0\nBR |ZZ\nBR A\n.BLKW 300\nA");
+        c.dueFault(6, ".ORIG 0\nBR |A\nBR ZZ\n.BLKW 300\nA");
+        c.dueFault(1, ".ORIG 0\nBR ZZ\nBR A\n.BLKW 300\nA |A");
+        c.dueFault(3, ".ORIG 0\nBR ZZ\nA\n|A");
+        c.dueFault(2, ".ORIG 0\nA\n.FILL |99999\nA\n!");
+        c.dueFault(1, ".ORIG 0\nA\nB |!\nA\n.FILL 99999");
     }
 }

@@ -24,25 +24,17 @@ public final class PrintTest {
         c.due("PC", x.register(8), 0x3001);
     }
 
-    private static String bytes(SixteenDesk x) {
-        StringBuilder all = new StringBuilder();
-        for (int i = 0; i < x.printed(); i++) {
-            all.append(i == 0 ? "" : " ").append(x.print(i));
-        }
-        return all.toString();
-    }
-
     private static void texts(Check c) {
         String data = ".ORIG x3000\nLEA R0, T\n%s\nHALT\nT .FILL x4142\n.FILL x0043\n.FILL x4400\n.FILL 0\n.FILL x45";
         SixteenDesk x = Check.loaded(data.replace("%s", "PUTS"));
         x.run(2);
-        c.due("PUTS", bytes(x), "66 67 0");
+        c.due("PUTS", Check.bytes(x), "66 67 0");
         SixteenDesk y = Check.loaded(data.replace("%s", "PUTSP"));
         y.run(2);
-        c.due("PUTSP", bytes(y), "66 65 67 0 68");
+        c.due("PUTSP", Check.bytes(y), "66 65 67 0 68");
         SixteenDesk edge = Check.loaded(".ORIG x3000\nLEA R0, T\nPUTSP\nHALT\nT .FILL x0141\n.FILL xC1\n.FILL xFF42\n.FILL x8000\n.FILL 0");
         edge.run(2);
-        c.due("PUTSP", bytes(edge), "65 1 193 66 255 0 128");
+        c.due("PUTSP", Check.bytes(edge), "65 1 193 66 255 0 128");
         SixteenDesk z = Check.loaded(".ORIG x3000\nLEA R0, T\nPUTS\nPUTSP\nHALT\nT .FILL 0");
         z.run(9);
         c.due("an empty text", z.printed(), 0);
@@ -58,7 +50,7 @@ public final class PrintTest {
         x.poke(0x2FFF, 66);
         x.poke(0x3001, 0);
         c.due("run(1)", x.run(1), 1);
-        c.due("users PUTS below x3000", bytes(x), "65 66 34");
+        c.due("users PUTS below x3000", Check.bytes(x), "65 66 34");
         SixteenDesk y = new SixteenDesk();
         y.key(70);
         y.key(71);
@@ -68,7 +60,7 @@ public final class PrintTest {
         y.poke(0xFE05, 73);
         y.poke(0xFE06, 74);
         y.run(1);
-        c.due("users PUTS the DEVICES", bytes(y), "70 72 0 73");
+        c.due("users PUTS the DEVICES", Check.bytes(y), "70 72 0 73");
         c.due("no key is gone", y.count(4), 2);
         c.due("no exception", y.count(2), 0);
         SixteenDesk z = new SixteenDesk();
@@ -77,7 +69,7 @@ public final class PrintTest {
         z.poke(65535, 80);
         z.poke(0, 81);
         z.run(1);
-        c.due("PUTS goes round", bytes(z), "80 81");
+        c.due("PUTS goes round", Check.bytes(z), "80 81");
     }
 
     // A program fills x4000 on with 4200 words, then prints them.
