@@ -168,6 +168,15 @@ final class Check {
         indirect(x, 0xB20F, place);
     }
 
+    /** Readies the machine to READ a place with every second STEP (LDI R1, BR back), so that many READS take few calls. */
+    static void readyToRead(SixteenDesk x, int place) {
+        x.set(9, SUPERVISORS);
+        x.set(8, 0x200);
+        x.poke(0x200, 0xA20F);
+        x.poke(0x201, 0x0FFE);
+        x.poke(0x210, place);
+    }
+
     private static void indirect(SixteenDesk x, int word, int place) {
         x.set(9, SUPERVISORS);
         x.set(8, 0x200);

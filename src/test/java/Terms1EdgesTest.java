@@ -9,10 +9,12 @@ public final class Terms1EdgesTest {
         sumsGoRound();
         sumsOfPlacesGoRound();
         sumsOfStacksGoRound();
+        wordsHave16Bits();
         signOfWords();
         memoryAtFirst();
         memoryIsSoLarge();
         registersAtFirst();
+        modeAndPriority();
         oneOfThreeSigns();
         otherBitsOfPsr();
         fiveDevices();
@@ -116,6 +118,16 @@ public final class Terms1EdgesTest {
         C.due("PUTS and PUTSP beyond the last WORD", Check.bytes(text), "65 66 65 66");
     }
 
+    private static void wordsHave16Bits() {
+        C.sentence("Terms 1", "WORDS have 16 bits, 0 to 65535");
+        SixteenDesk x = Check.desk(Check.USERS, 0x3000, 0x92BF, 0x7300);
+        x.set(2, 0x10000);
+        x.set(4, 0x4000);
+        x.run(2);
+        C.due("NOT of 65536's lowest 16 bits", x.register(1), 65535);
+        C.due("what it brings to the MEMORY", x.peek(0x4000), 65535);
+    }
+
     private static void signOfWords() {
         C.sentence("Terms 1", "As a number with sign a WORD from 32768 on stands for 65536 less.");
         dueSum("N, Z, P of 32767", 0x3000, 0x12A0, 32767, 0, 9, 0x0701);
@@ -160,6 +172,23 @@ public final class Terms1EdgesTest {
         SixteenDesk x = new SixteenDesk();
         for (int r = 0; r < due.length; r++) {
             C.due("register(" + r + ")", x.register(r), due[r]);
+        }
+    }
+
+    // Users are barred from place 0; a key interrupts below PRIORITY 4.
+    private static void modeAndPriority() {
+        C.sentence("Terms 1", "PSR: bit 15: 1 the mode of users, 0 that of the SUPERVISOR; bits 10 to 8: PRIORITY;");
+        for (int bits = 0; bits < 16; bits++) {
+            int psr = (bits & 8) << 12 | (bits & 7) << 8 | 2;
+            SixteenDesk x = Check.desk(psr, 0x3000, 0x6280);
+            x.run(1);
+            C.due("exceptions with PSR " + psr, x.count(2), bits >> 3);
+            Check.store(x, Check.KBSR, 0x4000);
+            x.set(9, psr);
+            x.set(8, 0x4000);
+            x.key(1);
+            x.run(1);
+            C.due("interrupts with PSR " + psr, x.count(1), (bits & 7) < 4 ? 1 : 0);
         }
     }
 
@@ -242,9 +271,10 @@ public final class Terms1EdgesTest {
         C.due("KBSR with 100 keys", Check.read(x, Check.KBSR), 0xC000);
         Check.store(x, Check.KBSR, 0xBFFF);
         C.due("KBSR, written xBFFF", Check.read(x, Check.KBSR), 0x8000);
+        Check.readyToRead(x, Check.KBDR);
         for (int k = 0; k < 100; k++) {
             C.due("KBSR while keys WAIT", x.peek(Check.KBSR), 0x8000);
-            Check.read(x, Check.KBDR);
+            x.run(2);
         }
         C.due("KBSR behind the last key", Check.read(x, Check.KBSR), 0);
     }

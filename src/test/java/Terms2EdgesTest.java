@@ -10,6 +10,7 @@ public final class Terms2EdgesTest {
         pcIsOneMore();
         pcIsOneMoreBehindAFault();
         instructionIsRead();
+        fieldsOfRegisters();
         imm5();
         off6();
         off9();
@@ -149,6 +150,43 @@ public final class Terms2EdgesTest {
         y.poke(0x5001, 0x0001);
         y.run(1);
         C.due("an instruction at DSR is 32768, RTI", y.register(8), 0x1111);
+    }
+
+    // R0 to R7 are x3800 to x3F00, so that each is told from each and may be a place of users.
+    private static void fieldsOfRegisters() {
+        C.sentence("Terms 2", "Its bits 15 to 12 tell what; DR, SR: bits 11 to 9; A: bits 8 to 6; B: bits 2 to 0;");
+        for (int d = 0; d < 8; d++) {
+            for (int a = 0; a < 8; a++) {
+                int b = (d + a) % 8;
+                dueRegister("ADD", 0x1000 | d << 9 | a << 6 | b, d, (0x3800 + a * 256) + (0x3800 + b * 256));
+                dueRegister("AND", 0x5000 | d << 9 | a << 6 | b, d, 0x3800 + a * 256 & 0x3800 + b * 256);
+                dueRegister("NOT", 0x903F | d << 9 | a << 6, d, 65535 - (0x3800 + a * 256));
+                dueRegister("LDR", 0x6001 | d << 9 | a << 6, d, 0x3801 + a * 256);
+                SixteenDesk x = registersAsPlaces(0x7001 | d << 9 | a << 6);
+                C.due("STR R" + d + ", R" + a, x.peek(0x3801 + a * 256), 0x3800 + d * 256);
+            }
+            dueRegister("JMP", 0xC000 | d << 6, 8, 0x3800 + d * 256);
+            dueRegister("JSRR", 0x4000 | d << 6, 8, 0x3800 + d * 256);
+            dueRegister("LD", 0x2001 | d << 9, d, 0x3002);
+            dueRegister("LEA", 0xE001 | d << 9, d, 0x3002);
+            dueRegister("LDI", 0xA002 | d << 9, d, 0x3002);
+            C.due("ST R" + d, registersAsPlaces(0x3001 | d << 9).peek(0x3002), 0x3800 + d * 256);
+            C.due("STI R" + d, registersAsPlaces(0xB002 | d << 9).peek(0x3002), 0x3800 + d * 256);
+        }
+    }
+
+    private static SixteenDesk registersAsPlaces(int word) {
+        SixteenDesk x = Check.desk(Check.USERS, 0x3000, word, 0, 0x3002, 0x3002);
+        for (int r = 0; r < 8; r++) {
+            x.set(r, 0x3800 + r * 256);
+            x.poke(0x3801 + r * 256, 0x3801 + r * 256);
+        }
+        x.run(1);
+        return x;
+    }
+
+    private static void dueRegister(String what, int word, int r, int want) {
+        C.due(String.format("%s %04X", what, word), registersAsPlaces(word).register(r), want);
     }
 
     /** The word, done once at x3000 with R2 x4000: what a register is then. */

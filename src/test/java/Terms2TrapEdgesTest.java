@@ -24,6 +24,7 @@ public final class Terms2TrapEdgesTest {
         goInFromUsers();
         goInFromSupervisors();
         goInWritesDevices();
+        exceptionsKnowThePcBehind();
         interruptHasPriority4();
         vectorsAreReadLate();
         allInTheSupervisorsMode();
@@ -404,6 +405,22 @@ public final class Terms2TrapEdgesTest {
         listening.set(6, Check.KBSR + 2);
         listening.run(1);
         C.due("PC at KBSR", listening.peek(Check.KBSR), 0x4000);
+    }
+
+    private static void exceptionsKnowThePcBehind() {
+        C.sentence("Terms 2", "An exception X (PC being that behind the instruction)");
+        int[][] rows = {{0x3000, 0xD000, 0x3001}, {0xFDFF, 0x8000, 0xFE00}, {0xFDFF, 0xF0FF, 0xFE00}, {0x3000, 0x2F00, 0x3001}, {0, 0, 1}};
+        for (int[] row : rows) {
+            SixteenDesk x = Check.desk(0x8704, row[0], row[1]);
+            x.run(1);
+            C.due(String.format("PC as it was, of %04X at %d", row[1], row[0]), x.peek(0x2FFE), row[2]);
+            C.due("PRIORITY stays", x.register(9), 0x0704);
+            C.due("exceptions", x.count(2), 1);
+        }
+        SixteenDesk last = Check.desk(Check.SUPERVISORS, 65535, 0xD000);
+        last.set(6, 0x5000);
+        last.run(1);
+        C.due("PC as it was, of an exception in the last WORD", last.peek(0x4FFE), 0);
     }
 
     private static void interruptHasPriority4() {

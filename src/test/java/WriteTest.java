@@ -4,7 +4,6 @@ public final class WriteTest {
         Check c = new Check("WriteTest");
         lines(c);
         asks(c);
-        everyWord(c);
         c.finish();
     }
 
@@ -52,30 +51,5 @@ public final class WriteTest {
         x.poke(7, 0xF023);
         x.write(7);
         c.due("a shorter LINE behind a longer one", x.written(2), -1);
-    }
-
-    // Ninety words a desk, which keeps each within its 512 calls.
-    private static void everyWord(Check c) {
-        int wrong = 0;
-        int fills = 0;
-        for (int from = 0; from < 65536; from += 90) {
-            SixteenDesk x = new SixteenDesk();
-            Check.feed(x, 0, ".ORIG 0\n");
-            int size = Math.min(90, 65536 - from);
-            for (int i = 0; i < size; i++) {
-                x.poke(0, from + i);
-                x.write(0);
-                fills += x.written(0) == '.' ? 1 : 0;
-                x.again();
-            }
-            c.due("the LINES from " + from, x.assemble(), 0);
-            c.due("told(2)", x.told(2), size);
-            for (int i = 0; i < size; i++) {
-                wrong += x.word(i) == from + i ? 0 : 1;
-            }
-        }
-        c.due("words that are not as they were", wrong, 0);
-        // BR, ADD and AND, JSRR, JMP, RTI, NOT, 13, TRAP: the words that no such LINE gives.
-        c.due(".FILLs", fills, 512 + 2 * 1536 + (2048 - 8) + (4096 - 8) + 4095 + (4096 - 64) + 4096 + (4096 - 256));
     }
 }
