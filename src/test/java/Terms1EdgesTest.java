@@ -22,6 +22,7 @@ public final class Terms1EdgesTest {
         kbdrGivesTheOldestKey();
         kbdrWithoutAKey();
         otherDevicesRead();
+        readsWriteNothing();
         kbsrWritten();
         ddrWritten();
         mcrWritten();
@@ -323,6 +324,26 @@ public final class Terms1EdgesTest {
         C.due("MCR behind a WRITE", Check.read(x, Check.MCR), 32768);
     }
 
+    // LD, LDI and LDR of each DEVICE: what a WRITE there would do is not done.
+    private static void readsWriteNothing() {
+        C.sentence("Terms 1", "DSR: 32768; DDR: 0; MCR: 32768.");
+        int[][] devices = {{Check.KBSR, 0}, {Check.KBDR, 0}, {Check.DSR, 32768}, {Check.DDR, 0}, {Check.MCR, 32768}};
+        int[] codes = {0x2202, 0x6280, 0xA202};
+        for (int[] device : devices) {
+            for (int code : codes) {
+                SixteenDesk x = Check.desk(Check.SUPERVISORS, code == 0x2202 ? device[0] - 3 : 0x3000, code);
+                x.poke(0x3003, device[0]);
+                x.set(1, 0x4141);
+                x.set(2, device[0]);
+                x.run(1);
+                C.due(String.format("%04X of %d", code, device[0]), x.register(1), device[1]);
+                C.due("nothing is PRINTED", x.printed(), 0);
+                C.due("it RUNS", x.state(), 0);
+                C.due("KBSR", x.peek(Check.KBSR), 0);
+            }
+        }
+    }
+
     private static void kbsrWritten() {
         C.sentence("Terms 1", "KBSR: its bit 14 is kept;");
         int[][] rows = {{0x4000, 0x4000}, {0, 0}, {0xFFFF, 0x4000}, {0xBFFF, 0}, {0x7FFF, 0x4000}, {0x8000, 0}};
@@ -331,6 +352,8 @@ public final class Terms1EdgesTest {
             Check.store(x, Check.KBSR, row[0]);
             C.due("KBSR, written " + row[0], x.peek(Check.KBSR), row[1]);
         }
+        C.due("nothing is PRINTED", x.printed(), 0);
+        C.due("it RUNS", x.state(), 0);
     }
 
     private static void ddrWritten() {
@@ -341,6 +364,8 @@ public final class Terms1EdgesTest {
             Check.store(x, Check.DDR, word);
         }
         C.due("what is PRINTED", Check.bytes(x), "0 255 0 65 255");
+        C.due("KBSR", x.peek(Check.KBSR), 0);
+        C.due("it RUNS", x.state(), 0);
     }
 
     private static void mcrWritten() {

@@ -211,6 +211,8 @@ public final class Terms2TrapEdgesTest {
         C.due("no WORD", printedOf(0xF024, 0, 65), "");
         C.due("two bytes", printedOf(0xF024, 0x4241, 0), "65 66");
         C.due("highest 8 bits that are 0", printedOf(0xF024, 0x0041, 0x0042, 0), "65 66");
+        C.due("highest 8 bits that are 0, behind lowest from 128 on", printedOf(0xF024, 0x00FF, 0x0080, 0), "255 128");
+        C.due("highest 8 bits that are 1", printedOf(0xF024, 0x0141, 0x0180, 0), "65 1 128 1");
         C.due("lowest 8 bits that are 0", printedOf(0xF024, 0x0100, 0xFF00, 0), "0 1 0 255");
     }
 

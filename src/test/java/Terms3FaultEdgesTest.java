@@ -159,6 +159,13 @@ public final class Terms3FaultEdgesTest {
             C.dueFault(1, ORIG + "BR |" + word);
             C.dueFault(1, ORIG + "HALT |" + word);
         }
+        String[] marks = {"#", "-", "_", ".."};
+        for (String mark : marks) {
+            C.dueFault(1, "|" + mark + "ORIG 9");
+            C.dueFault(1, ORIG + "|" + mark + "FILL 9");
+            C.dueFault(1, ORIG + "|" + mark + "END");
+            C.dueFault(1, ORIG + "|" + mark + "HALT");
+        }
     }
 
     /** The least and the most NUMBER that goes behind a head, with their words, and the nearest that do not. */

@@ -22,6 +22,7 @@ public final class Terms3TextEdgesTest {
         hexadecimals();
         registers();
         labels();
+        labelsAreToldApart();
         labelsThatAreNone();
         branchNames();
         emptyLines();
@@ -201,6 +202,10 @@ public final class Terms3TextEdgesTest {
         dueNumber("x-0000A", 65526);
         dueNumber("x0FFFF", 65535);
         dueNumber("xA9F0", 0xA9F0);
+        for (int digit = 0; digit < 16; digit++) {
+            dueNumber("x" + Integer.toHexString(digit), digit);
+            dueNumber("X0" + Integer.toHexString(digit).toUpperCase() + "0", digit * 16);
+        }
         C.dueFault(2, ORIG + ".FILL |xFFFFF");
         C.dueFault(2, ORIG + ".FILL |x-FFFFF");
         dueNoNumber("x", "x-", "x000009", "x-000009", "xG", "x-G", "x1G", "x--1", "x#1", "-x1", "#x1", "0x1", "x1-", "x1.");
@@ -233,6 +238,31 @@ public final class Terms3TextEdgesTest {
             C.dueFault(1, ".ORIG 9\n|" + name + " HALT");
         }
         C.dueWords(".ORIG 9\nABCDEFGHIJKLMNOPQRST\n.FILL 0\nABCDEFGHIJKLMNOPQRSU .FILL ABCDEFGHIJKLMNOPQRST", "0000 0009");
+    }
+
+    // LABELS that differ in one sign, at each of their twenty places, or in the order of two.
+    private static void labelsAreToldApart() {
+        C.sentence("Terms 3", "A LABEL: a letter, then letters, digits, _ , at most 20 in all");
+        String signs = "ABCDEFGHIJKLMNOPQRSTUVWXYZ0123456789_";
+        StringBuilder text = new StringBuilder(".ORIG 9\n");
+        StringBuilder want = new StringBuilder();
+        for (int i = 0; i < signs.length(); i++) {
+            text.append('Q').append(signs.charAt(i)).append(" .FILL q").append(signs.substring(i, i + 1).toLowerCase()).append('\n');
+            want.append(i == 0 ? "" : " ").append(String.format("%04X", 9 + i));
+        }
+        C.dueWords(text.toString(), want.toString());
+        String name = "ABCDEFGHIJKLMNOPQRST";
+        for (int i = 0; i < 20; i++) {
+            String other = name.substring(0, i) + "Z" + name.substring(i + 1);
+            C.dueWords(".ORIG 9\n" + name + " .FILL " + other + "\n" + other + " .FILL " + name, "000A 0009");
+        }
+        for (int i = 0; i < 19; i++) {
+            String other = name.substring(0, i) + name.charAt(i + 1) + name.charAt(i) + name.substring(i + 2);
+            C.dueWords(".ORIG 9\n" + name + " .FILL " + other + "\n" + other + " .FILL " + name, "000A 0009");
+        }
+        for (int length = 2; length < 20; length++) {
+            C.dueWords(".ORIG 9\n" + name + " .FILL " + name.substring(0, length) + "\n" + name.substring(0, length) + " .FILL " + name, "000A 0009");
+        }
     }
 
     private static void labelsThatAreNone() {
@@ -308,6 +338,7 @@ public final class Terms3TextEdgesTest {
     private static void behindEnd() {
         C.sentence("Terms 3", "what stands behind .END's LINE is nothing.");
         C.dueWords(".ORIG 9\n.END\nHALT", "");
+        C.dueWords("\n\n.ORIG 9\n\nHALT\n.END\nHALT", "F025");
         C.dueWords(".ORIG 9\nHALT\n.END ; x\n! \" \u0000 A A\n.END 5\nHALT", "F025");
         C.dueFault(1, ".ORIG 9\n.END |HALT\n");
         C.dueFault(1, ".ORIG 9\n.END |.END");
@@ -315,6 +346,8 @@ public final class Terms3TextEdgesTest {
         SixteenDesk x = new SixteenDesk();
         Check.assemble(x, ".ORIG 9\nA .END\nB");
         C.due("LABELS", x.told(4), 1);
+        C.due("another text behind one with .END", Check.assemble(x, "\n.ORIG 9\nHALT"), 0);
+        C.due("its words", Check.words(x), "F025");
     }
 
     private static void placesOfWords() {
