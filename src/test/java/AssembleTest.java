@@ -118,13 +118,9 @@ public final class AssembleTest {
         c.due("label(0)", x.label(0), 4096);
         c.due(".BLKW 4096", Check.assemble(x, ".ORIG xF000\n.BLKW x1000"), 0);
         c.due("told(2)", x.told(2), 4096);
-        StringBuilder many = new StringBuilder(".ORIG 0\n");
-        for (int i = 0; i < 200; i++) {
-            many.append('L').append(i).append('\n');
-        }
-        c.due("200 LABELS", Check.assemble(x, many + ".FILL L199"), 0);
+        c.due("200 LABELS", Check.assemble(x, Check.manyLabels(200) + ".FILL L199"), 0);
         c.due("told(4)", x.told(4), 200);
-        c.due("label(199)", x.label(199), 0);
+        c.due("label(199)", x.label(199), 0x3000);
     }
 
     private static void stays(Check c) {

@@ -145,6 +145,23 @@ final class Check {
         return x;
     }
 
+    /** A desk that has 4,200 words from x4000 on, all the same, R0 at them, and PC at these LINES. */
+    static SixteenDesk longText(int word, String lines) {
+        SixteenDesk x = loaded(".ORIG x3000\nLD R0,A\nLD R1,N\nLD R2,V\nL STR R2,R0,#0\nADD R0,R0,#1\nADD R1,R1,#-1\nBRP L\nLD R0,A\n"
+            + lines + "\nA .FILL x4000\nN .FILL 4200\nV .FILL " + word);
+        x.run(3 + 4 * 4200 + 1);
+        return x;
+    }
+
+    /** A text that tells the LABELS L0, L1 and so on, a LINE each. */
+    static String manyLabels(int n) {
+        StringBuilder all = new StringBuilder(".ORIG x3000\n");
+        for (int i = 0; i < n; i++) {
+            all.append('L').append(i).append('\n');
+        }
+        return all.toString();
+    }
+
     /** A desk with its PC at a place, and these words from there on. */
     static SixteenDesk desk(int psr, int pc, int... words) {
         SixteenDesk x = new SixteenDesk();

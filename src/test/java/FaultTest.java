@@ -57,10 +57,7 @@ public final class FaultTest {
     private static void twiceAndRoom(Check c) {
         c.dueFault(3, ".ORIG 5\nA\n|A");
         c.dueFault(3, ".ORIG 5\nLoop HALT\n|lOOP !");
-        StringBuilder many = new StringBuilder(".ORIG 0\n");
-        for (int i = 0; i < 200; i++) {
-            many.append('L').append(i).append('\n');
-        }
+        String many = Check.manyLabels(200);
         c.dueFault(4, many + "|M HALT");
         c.dueFault(3, many + "|L7");
         c.dueFault(4, ".ORIG xFFFF\nHALT\n|HALT");

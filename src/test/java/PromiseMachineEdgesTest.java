@@ -464,18 +464,10 @@ public final class PromiseMachineEdgesTest {
         C.due("KBDR", x.peek(Check.KBDR), 1);
     }
 
-    /** A desk that has x4142 from x4000 on for 4,200 words, and R0 at them. */
-    private static SixteenDesk longText(String loop) {
-        SixteenDesk x = Check.loaded(".ORIG x3000\nLD R0,A\nLD R1,N\nLD R2,V\nL STR R2,R0,#0\nADD R0,R0,#1\nADD R1,R1,#-1\nBRP L\nLD R0,A\n"
-            + loop + "\nA .FILL x4000\nN .FILL 4200\nV .FILL x4142");
-        x.run(8 + 4 * 4200 - 4);
-        return x;
-    }
-
     // 54 runs of 10,000 PUTSP, 8,192 bytes each: past 2 to the 31st, and past 2 to the 32nd.
     private static void printedGoesRound() {
         C.sentence("Promise 19", "How many bytes were PRINTED (going round at 32 bits).");
-        SixteenDesk x = longText("P PUTSP\nBR P");
+        SixteenDesk x = Check.longText(0x4142, "P PUTSP\nBR P");
         C.due("printed() ahead of it", x.printed(), 0);
         C.due("PC", x.register(8), 0x3008);
         long total = 0;
@@ -492,14 +484,14 @@ public final class PromiseMachineEdgesTest {
 
     private static void printKeeps4000() {
         C.sentence("Promise 20", "Byte i of what was PRINTED, of which the first 4,000 are kept;");
-        SixteenDesk x = longText("PUTS\nHALT");
+        SixteenDesk x = Check.longText(0x4142, "PUTS\nHALT");
         x.run(1);
         C.due("printed()", x.printed(), 4096);
         C.due("print(0)", x.print(0), 0x42);
         C.due("print(3999)", x.print(3999), 0x42);
         C.due("print(4000)", x.print(4000), NONE);
         C.due("print(4095)", x.print(4095), NONE);
-        SixteenDesk y = longText("OUT\nPUTSP\nHALT");
+        SixteenDesk y = Check.longText(0x4142, "OUT\nPUTSP\nHALT");
         y.run(2);
         C.due("printed()", y.printed(), 8193);
         C.due("print(0)", y.print(0), 0);

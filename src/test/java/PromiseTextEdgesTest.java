@@ -268,12 +268,8 @@ public final class PromiseTextEdgesTest {
         dueNoLabel(x, 0);
         Check.assemble(x, ".ORIG 9\nA HALT !");
         dueNoLabel(x, 0);
-        StringBuilder many = new StringBuilder(".ORIG 0\n");
-        for (int i = 0; i < 200; i++) {
-            many.append('L').append(i).append('\n');
-        }
-        Check.assemble(x, many.toString());
-        C.due("label(199)", x.label(199), 0);
+        Check.assemble(x, Check.manyLabels(200));
+        C.due("label(199)", x.label(199), 0x3000);
         dueNoLabel(x, 200);
         Check.assemble(x, ".ORIG 9\nA\nB HALT");
         dueNoLabel(x, 2);

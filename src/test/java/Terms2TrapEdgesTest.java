@@ -182,15 +182,10 @@ public final class Terms2TrapEdgesTest {
         C.due("a WORD of which the lowest 8 bits are 0", printedOf(0xF022, 256, 0x8000, 0x41FF, 0), "0 0 255");
     }
 
-    /** A desk that has 4,200 words from x4000 on, and R0 at them; the one at a place is 0. */
+    /** A desk whose next STEP is a TRAP that prints the WORDS from x4000 on, 4,200 but for the one at a place, which is 0. */
     private static SixteenDesk longText(String name, int zero) {
-        SixteenDesk x = Check.loaded(".ORIG x3000\nLD R0,A\nLD R1,N\nLD R2,V\nL STR R2,R0,#0\nADD R0,R0,#1\nADD R1,R1,#-1\n"
-            + "BRP L\nLD R0,A\nHALT\nA .FILL x4000\nN .FILL 4200\nV .FILL x4241");
-        x.run(20000);
+        SixteenDesk x = Check.longText(0x4241, name);
         x.poke(zero, 0);
-        Check.assemble(x, ".ORIG x3100\n" + name);
-        x.load();
-        x.set(0, 0x4000);
         return x;
     }
 
@@ -201,7 +196,7 @@ public final class Terms2TrapEdgesTest {
             SixteenDesk x = longText("PUTS", 0x4000 + row[0]);
             C.due("run(1)", x.run(1), 1);
             C.due("PUTS of " + row[0], x.printed(), row[1]);
-            C.due("PC", x.register(8), 0x3101);
+            C.due("PC", x.register(8), 0x3009);
             C.due("R0 stays", x.register(0), 0x4000);
         }
     }

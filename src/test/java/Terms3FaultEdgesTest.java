@@ -268,23 +268,15 @@ public final class Terms3FaultEdgesTest {
         C.due("and again in a text behind that", Check.assemble(x, ORIG + "B HALT"), 0);
     }
 
-    private static String manyLabels(int n) {
-        StringBuilder all = new StringBuilder(ORIG);
-        for (int i = 0; i < n; i++) {
-            all.append('L').append(i).append('\n');
-        }
-        return all.toString();
-    }
-
     private static void roomForLabels() {
         C.sentence("Terms 3", "4 ROOM: a 201st LABEL told;");
         SixteenDesk x = new SixteenDesk();
-        C.due("200 LABELS", Check.assemble(x, manyLabels(199) + "M .FILL L0\n.FILL M"), 0);
+        C.due("200 LABELS", Check.assemble(x, Check.manyLabels(199) + "M .FILL L0\n.FILL M"), 0);
         C.due("told(4)", x.told(4), 200);
         C.due("label(199)", x.label(199), 0x3000);
-        C.dueFault(4, manyLabels(200) + "|M");
-        C.dueFault(4, manyLabels(200) + "|M !");
-        C.dueFault(5, manyLabels(200) + ".FILL |M");
+        C.dueFault(4, Check.manyLabels(200) + "|M");
+        C.dueFault(4, Check.manyLabels(200) + "|M !");
+        C.dueFault(5, Check.manyLabels(200) + ".FILL |M");
     }
 
     private static void roomBelow65536() {
@@ -430,8 +422,8 @@ public final class Terms3FaultEdgesTest {
 
     private static void leastOfOnePlace() {
         C.sentence("Terms 3", "(Of one place the least;");
-        C.dueFault(3, manyLabels(200) + "|L0");
-        C.dueFault(3, manyLabels(200) + "|L199 !");
+        C.dueFault(3, Check.manyLabels(200) + "|L0");
+        C.dueFault(3, Check.manyLabels(200) + "|L199 !");
     }
 
     private static void textsEnd() {
