@@ -240,7 +240,7 @@ public final class Terms3TextEdgesTest {
         C.dueWords(".ORIG 9\nABCDEFGHIJKLMNOPQRST\n.FILL 0\nABCDEFGHIJKLMNOPQRSU .FILL ABCDEFGHIJKLMNOPQRST", "0000 0009");
     }
 
-    // LABELS that differ in one sign, at each of their twenty places, or in the order of two.
+    // LABELS that differ in one sign, at each of their twenty places by each sign, or in the order of two, or in their length.
     private static void labelsAreToldApart() {
         C.sentence("Terms 3", "A LABEL: a letter, then letters, digits, _ , at most 20 in all");
         String signs = "ABCDEFGHIJKLMNOPQRSTUVWXYZ0123456789_";
@@ -253,16 +253,24 @@ public final class Terms3TextEdgesTest {
         C.dueWords(text.toString(), want.toString());
         String name = "ABCDEFGHIJKLMNOPQRST";
         for (int i = 0; i < 20; i++) {
-            String other = name.substring(0, i) + "Z" + name.substring(i + 1);
-            C.dueWords(".ORIG 9\n" + name + " .FILL " + other + "\n" + other + " .FILL " + name, "000A 0009");
+            for (int j = 0; j < (i == 0 ? 26 : signs.length()); j++) {
+                String other = name.substring(0, i) + signs.charAt(j) + name.substring(i + 1);
+                if (!other.equals(name)) {
+                    dueApart(name, other);
+                }
+            }
         }
         for (int i = 0; i < 19; i++) {
             String other = name.substring(0, i) + name.charAt(i + 1) + name.charAt(i) + name.substring(i + 2);
-            C.dueWords(".ORIG 9\n" + name + " .FILL " + other + "\n" + other + " .FILL " + name, "000A 0009");
+            dueApart(name, other);
         }
         for (int length = 2; length < 20; length++) {
-            C.dueWords(".ORIG 9\n" + name + " .FILL " + name.substring(0, length) + "\n" + name.substring(0, length) + " .FILL " + name, "000A 0009");
+            dueApart(name, name.substring(0, length));
         }
+    }
+
+    private static void dueApart(String name, String other) {
+        C.dueWords(".ORIG 9\n" + name + " .FILL " + other + "\n" + other + " .FILL " + name, "000A 0009");
     }
 
     private static void labelsThatAreNone() {
